@@ -1,0 +1,85 @@
+/** Promise 2: a run begins. */
+public final class BeginTest {
+    public static void main(String[] args) {
+        Check check = new Check();
+        answersPlacesNotZero(check);
+        forgetsTouchedAndRefund(check);
+        endsOpenMessagesAndKeepsWhatTheyWrote(check);
+        firstIsAsAtTheLatestBegin(check);
+        opensAfterBeginStartFromDepthZero(check);
+        check.end();
+    }
+
+    private static void answersPlacesNotZero(Check check) {
+        StorageCosts x = new StorageCosts();
+        check.due("begin on a new object", 0, x.begin());
+        x.store(0, 0, 1L, 30000);
+        x.store(3, 63, -1L, 30000);
+        x.store(2, 5, Long.MIN_VALUE, 30000);
+        x.load(1, 1);
+        check.due("begin with three places filled", 3, x.begin());
+        x.store(0, 0, 0L, 30000);
+        check.due("begin with two places filled", 2, x.begin());
+        check.due("begin again", 2, x.begin());
+    }
+
+    private static void forgetsTouchedAndRefund(Check check) {
+        StorageCosts x = new StorageCosts();
+        x.store(0, 0, 1L, 30000);
+        x.begin();
+        x.store(0, 0, 0L, 30000);
+        for (int o = 0; o <= 3; o++) {
+            x.load(o, 63);
+        }
+        check.due("refund before begin", 15000, x.count(0));
+        check.due("touched before begin", 5, x.count(1));
+        x.begin();
+        check.due("refund after begin", 0, x.count(0));
+        check.due("touched after begin", 0, x.count(1));
+        for (int o = 0; o <= 3; o++) {
+            check.due("touched after begin", false, x.touched(o, 63));
+            check.due("load after begin", 2100, x.load(o, 63));
+        }
+    }
+
+    private static void endsOpenMessagesAndKeepsWhatTheyWrote(Check check) {
+        StorageCosts x = new StorageCosts();
+        x.open();
+        x.store(0, 7, 70L, 30000);
+        x.open();
+        x.store(1, 8, 80L, 30000);
+        check.due("begin with two messages open", 2, x.begin());
+        check.due("depth", 0, x.count(2));
+        check.due("refund", 0, x.count(0));
+        check.due("touched", 0, x.count(1));
+        check.due("held of the outer message", 70L, x.held(0, 7, false));
+        check.due("first of the outer message", 70L, x.held(0, 7, true));
+        check.due("held of the inner message", 80L, x.held(1, 8, false));
+        check.due("first of the inner message", 80L, x.held(1, 8, true));
+        check.refused("close after begin", x, Check.STATE, () -> x.close(false));
+    }
+
+    private static void firstIsAsAtTheLatestBegin(Check check) {
+        StorageCosts x = new StorageCosts();
+        x.store(2, 2, 5L, 30000);
+        check.due("first before begin", 0L, x.held(2, 2, true));
+        x.begin();
+        check.due("first after begin", 5L, x.held(2, 2, true));
+        x.store(2, 2, 6L, 30000);
+        check.due("first after a store", 5L, x.held(2, 2, true));
+        x.store(2, 2, 0L, 30000);
+        x.begin();
+        check.due("first after a begin on 0", 0L, x.held(2, 2, true));
+    }
+
+    private static void opensAfterBeginStartFromDepthZero(Check check) {
+        StorageCosts x = new StorageCosts();
+        for (int i = 1; i <= 30; i++) {
+            x.open();
+        }
+        x.begin();
+        for (int i = 1; i <= 30; i++) {
+            check.due("open " + i + " after begin", i, x.open());
+        }
+    }
+}

@@ -1,0 +1,70 @@
+/** Promise 9: the four counts. */
+public final class CountTest {
+    public static void main(String[] args) {
+        Check check = new Check();
+        eachCount(check);
+        refundTakenAway(check);
+        allPlaces(check);
+        wrongWhat(check);
+        check.end();
+    }
+
+    private static void eachCount(Check check) {
+        StorageCosts x = new StorageCosts();
+        x.store(0, 0, 5L, 30000);
+        x.store(1, 0, 5L, 30000);
+        x.begin();
+        x.open();
+        x.open();
+        x.open();
+        x.store(0, 0, 0L, 30000);
+        x.load(2, 2);
+        x.store(3, 3, 0L, 30000);
+        x.load(3, 4);
+        x.store(3, 5, 1L, 30000);
+        check.due("refund", 15000, x.count(0));
+        check.due("touched", 5, x.count(1));
+        check.due("depth", 3, x.count(2));
+        check.due("places not 0", 2, x.count(3));
+    }
+
+    private static void refundTakenAway(Check check) {
+        StorageCosts x = new StorageCosts();
+        x.store(0, 0, 5L, 30000);
+        x.begin();
+        x.store(0, 0, 0L, 30000);
+        x.store(0, 0, 6L, 30000);
+        check.due("refund given and taken", 0, x.count(0));
+        x.store(0, 0, 0L, 30000);
+        x.open();
+        x.store(0, 0, 7L, 30000);
+        check.due("refund taken in a message", 0, x.count(0));
+        x.close(false);
+        check.due("refund as before", 15000, x.count(0));
+    }
+
+    private static void allPlaces(Check check) {
+        StorageCosts x = new StorageCosts();
+        for (int i = 0; i < 256; i++) {
+            x.store(i / 64, i % 64, i % 2 == 0 ? -1L : 1L << 40, 30000);
+            check.due("touched", i + 1, x.count(1));
+            check.due("places not 0", i + 1, x.count(3));
+        }
+        for (int i = 0; i < 256; i++) {
+            x.store(i / 64, i % 64, 0L, 30000);
+            check.due("touched", 256, x.count(1));
+            check.due("places not 0", 255 - i, x.count(3));
+        }
+        check.due("refund", 256 * 19900, x.count(0));
+    }
+
+    private static void wrongWhat(Check check) {
+        StorageCosts x = new StorageCosts();
+        x.open();
+        x.store(0, 0, 1L, 30000);
+        int[] wrong = {-1, 4, 5, Integer.MIN_VALUE, Integer.MAX_VALUE};
+        for (int what : wrong) {
+            check.refused("count(" + what + ")", x, Check.ARGUMENT, () -> x.count(what));
+        }
+    }
+}

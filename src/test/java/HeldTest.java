@@ -1,0 +1,52 @@
+/** Promise 7: what a place holds, and what it held when the run began. */
+public final class HeldTest {
+    public static void main(String[] args) {
+        Check check = new Check();
+        everyPlaceOnItsOwn(check);
+        wideValues(check);
+        touchesNothing(check);
+        wrongPlaces(check);
+        check.end();
+    }
+
+    private static void everyPlaceOnItsOwn(Check check) {
+        StorageCosts x = new StorageCosts();
+        for (int i = 0; i < 256; i++) {
+            x.store(i / 64, i % 64, 1000L + i, 30000);
+        }
+        x.begin();
+        for (int i = 0; i < 256; i++) {
+            x.store(i / 64, i % 64, 2000L + i, 30000);
+        }
+        for (int i = 0; i < 256; i++) {
+            check.due("held " + i, 2000L + i, x.held(i / 64, i % 64, false));
+            check.due("first " + i, 1000L + i, x.held(i / 64, i % 64, true));
+        }
+    }
+
+    private static void wideValues(Check check) {
+        long[] values = {Long.MIN_VALUE, Long.MAX_VALUE, -1L, 1L << 32, 1L};
+        for (long v : values) {
+            StorageCosts x = new StorageCosts();
+            x.store(2, 40, v, 30000);
+            check.due("held", v, x.held(2, 40, false));
+            check.due("first before begin", 0L, x.held(2, 40, true));
+            x.begin();
+            check.due("first after begin", v, x.held(2, 40, true));
+        }
+    }
+
+    private static void touchesNothing(Check check) {
+        StorageCosts x = new StorageCosts();
+        x.held(0, 0, false);
+        x.held(0, 1, true);
+        check.due("touched by held", 0, x.count(1));
+        check.due("load after held", 2100, x.load(0, 0));
+    }
+
+    private static void wrongPlaces(Check check) {
+        StorageCosts x = new StorageCosts();
+        WrongPlaces.refused(check, "held", x, (o, p) -> x.held(o, p, false));
+        WrongPlaces.refused(check, "held first", x, (o, p) -> x.held(o, p, true));
+    }
+}

@@ -1,0 +1,46 @@
+/** Promise 1: all places hold 0, nothing is touched, no message is open, as if a run had begun. */
+public final class NewObjectTest {
+    public static void main(String[] args) {
+        Check check = new Check();
+        everythingIsZero(check);
+        aRunIsOnAtOnce(check);
+        objectsAreApart(check);
+        check.end();
+    }
+
+    private static void everythingIsZero(Check check) {
+        StorageCosts x = new StorageCosts();
+        for (int what = 0; what <= 3; what++) {
+            check.due("new: count(" + what + ")", 0, x.count(what));
+        }
+        for (int o = 0; o <= 3; o++) {
+            for (int p = 0; p <= 63; p++) {
+                check.due("new: held", 0L, x.held(o, p, false));
+                check.due("new: held first", 0L, x.held(o, p, true));
+                check.due("new: touched", false, x.touched(o, p));
+            }
+        }
+    }
+
+    private static void aRunIsOnAtOnce(Check check) {
+        StorageCosts x = new StorageCosts();
+        check.due("store before any begin", 22100, x.store(0, 0, 5L, 22100));
+        check.due("its first", 0L, x.held(0, 0, true));
+        check.due("back to first", 100, x.store(0, 0, 0L, 2301));
+        check.due("refund", 19900, x.count(0));
+        StorageCosts y = new StorageCosts();
+        check.refused("close on a new object", y, Check.STATE, () -> y.close(true));
+        check.due("open on a new object", 1, y.open());
+    }
+
+    private static void objectsAreApart(Check check) {
+        StorageCosts x = new StorageCosts();
+        StorageCosts y = new StorageCosts();
+        String before = Check.shown(y);
+        x.store(1, 2, 3L, 30000);
+        x.begin();
+        x.open();
+        x.store(1, 2, 0L, 30000);
+        check.due("another object's state", before, Check.shown(y));
+    }
+}

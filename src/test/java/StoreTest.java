@@ -1,0 +1,157 @@
+/** Promise 6: what a store costs, what it gives back, and when it is refused. */
+public final class StoreTest {
+    private static final int PLENTY = 1000000;
+
+    public static void main(String[] args) {
+        Check check = new Check();
+        sameValue(check);
+        fromFirst(check);
+        againWithFirstZero(check);
+        againWithFirstNotZero(check);
+        allBitsOfAValueCount(check);
+        refundOverManyStores(check);
+        gasEdges(check);
+        refusedStoreChangesNothing(check);
+        wrongPlaces(check);
+        check.end();
+    }
+
+    private static void sameValue(Check check) {
+        ask(check, 0, new long[] {}, 0, 100, 0);
+        ask(check, 5, new long[] {}, 5, 100, 0);
+        ask(check, 5, new long[] {0}, 0, 100, 0);
+        ask(check, 5, new long[] {7}, 7, 100, 0);
+        ask(check, 0, new long[] {7}, 7, 100, 0);
+        ask(check, 5, new long[] {7, 5}, 5, 100, 0);
+    }
+
+    private static void fromFirst(Check check) {
+        ask(check, 0, new long[] {}, 5, 20000, 0);
+        ask(check, 0, new long[] {}, -1, 20000, 0);
+        ask(check, 5, new long[] {}, 6, 2900, 0);
+        ask(check, 5, new long[] {}, 0, 2900, 15000);
+        ask(check, 0, new long[] {5, 0}, 6, 20000, 0);
+        ask(check, 5, new long[] {6, 5}, 7, 2900, 0);
+        ask(check, 5, new long[] {0, 5}, 0, 2900, 15000);
+    }
+
+    private static void againWithFirstZero(Check check) {
+        ask(check, 0, new long[] {5}, 6, 100, 0);
+        ask(check, 0, new long[] {5}, 0, 100, 19900);
+        ask(check, 0, new long[] {5, 6}, 0, 100, 19900);
+    }
+
+    private static void againWithFirstNotZero(Check check) {
+        ask(check, 5, new long[] {6}, 7, 100, 0);
+        ask(check, 5, new long[] {6}, 0, 100, 15000);
+        ask(check, 5, new long[] {6}, 5, 100, 2800);
+        ask(check, 5, new long[] {0}, 6, 100, -15000);
+        ask(check, 5, new long[] {0}, 5, 100, -12200);
+        ask(check, 5, new long[] {0, 6}, 0, 100, 15000);
+    }
+
+    private static void allBitsOfAValueCount(Check check) {
+        long high = 1L << 32;
+        ask(check, 0, new long[] {}, high, 20000, 0);
+        ask(check, high, new long[] {}, 0, 2900, 15000);
+        ask(check, high, new long[] {5}, high, 100, 2800);
+        ask(check, 5, new long[] {}, high + 5, 2900, 0);
+        ask(check, 5, new long[] {6}, high + 5, 100, 0);
+        ask(check, 5, new long[] {high}, 5, 100, 2800);
+        ask(check, Long.MIN_VALUE, new long[] {}, Long.MAX_VALUE, 2900, 0);
+        ask(check, Long.MIN_VALUE, new long[] {Long.MAX_VALUE}, 0, 100, 15000);
+    }
+
+    /** One store on a touched place, and as the first touch where nothing was stored in the run before. */
+    private static void ask(Check check, long first, long[] before, long v, int cost, int refund) {
+        String what = "first " + first + ", then " + java.util.Arrays.toString(before) + ", store " + v;
+        StorageCosts x = run(first, before);
+        x.load(3, 63);
+        int refundBefore = x.count(0);
+        check.due(what, cost, x.store(3, 63, v, PLENTY));
+        check.due(what + ": refund", refund, x.count(0) - refundBefore);
+        check.due(what + ": held", v, x.held(3, 63, false));
+        check.due(what + ": first", first, x.held(3, 63, true));
+        check.due(what + ": touched", 1, x.count(1));
+        if (before.length == 0) {
+            askUntouched(check, what, run(first, before), v, cost, refund);
+        }
+    }
+
+    private static void askUntouched(Check check, String what, StorageCosts x, long v, int cost, int refund) {
+        check.due(what + " untouched", cost + 2100, x.store(3, 63, v, PLENTY));
+        check.due(what + " untouched: refund", refund, x.count(0));
+        check.due(what + " untouched: held", v, x.held(3, 63, false));
+        check.due(what + " untouched: touched", true, x.touched(3, 63));
+        check.due(what + " untouched: how many", 1, x.count(1));
+    }
+
+    private static StorageCosts run(long first, long[] before) {
+        StorageCosts x = new StorageCosts();
+        x.store(3, 63, first, PLENTY);
+        x.begin();
+        for (long v : before) {
+            x.store(3, 63, v, PLENTY);
+        }
+        return x;
+    }
+
+    private static void refundOverManyStores(Check check) {
+        StorageCosts x = run(5L, new long[] {0L});
+        check.due("refund for emptying", 15000, x.count(0));
+        x.store(3, 63, 5L, PLENTY);
+        check.due("refund for first again", 2800, x.count(0));
+        x.store(3, 63, 0L, PLENTY);
+        x.store(3, 63, 6L, PLENTY);
+        x.store(3, 63, 5L, PLENTY);
+        check.due("refund after the long way round", 5600, x.count(0));
+    }
+
+    private static void gasEdges(Check check) {
+        gasEdge(check, 0L, new long[] {}, 1L, 22100);
+        gasEdge(check, 5L, new long[] {}, 6L, 5000);
+        gasEdge(check, 5L, new long[] {}, 0L, 5000);
+        gasEdge(check, 0L, new long[] {5, 0}, 6L, 20000);
+        gasEdge(check, 5L, new long[] {6, 5}, 7L, 2900);
+        stipendEdge(check, 0L, new long[] {}, 0L, 2200);
+        stipendEdge(check, 5L, new long[] {6}, 6L, 100);
+        stipendEdge(check, 5L, new long[] {6}, 0L, 100);
+    }
+
+    private static void gasEdge(Check check, long first, long[] before, long v, int cost) {
+        StorageCosts x = run(first, before);
+        refused(check, x, v, cost - 1);
+        check.due("store with just enough gas", cost, x.store(3, 63, v, cost));
+    }
+
+    private static void stipendEdge(Check check, long first, long[] before, long v, int cost) {
+        StorageCosts x = run(first, before);
+        int[] tooLittle = {2300, 2299, 2200, 100, 99, 1, 0, -1, Integer.MIN_VALUE};
+        for (int gas : tooLittle) {
+            refused(check, x, v, gas);
+        }
+        check.due("store with gas 2301", cost, x.store(3, 63, v, 2301));
+        StorageCosts y = run(first, before);
+        check.due("store with all gas", cost, y.store(3, 63, v, Integer.MAX_VALUE));
+    }
+
+    private static void refused(Check check, StorageCosts x, long v, int gas) {
+        check.refused("store " + v + " with gas " + gas, x, Check.STATE, () -> x.store(3, 63, v, gas));
+    }
+
+    private static void refusedStoreChangesNothing(Check check) {
+        StorageCosts x = new StorageCosts();
+        refused(check, x, 1L, 22099);
+        check.due("touched by a refused store", false, x.touched(3, 63));
+        check.due("load after a refused store", 2100, x.load(3, 63));
+        x.open();
+        refused(check, x, 1L, 19999);
+        check.due("depth after a refused store", 1, x.count(2));
+    }
+
+    private static void wrongPlaces(Check check) {
+        StorageCosts x = run(5L, new long[] {0L});
+        WrongPlaces.refused(check, "store", x, (o, p) -> x.store(o, p, 1L, PLENTY));
+        WrongPlaces.refused(check, "store with no gas", x, (o, p) -> x.store(o, p, 1L, 0));
+    }
+}
