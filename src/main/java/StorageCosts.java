@@ -192,7 +192,7 @@ public final class StorageCosts {
         }
 
         private boolean isMarked(int o, int p) {
-            return (marks[o] >>> p & 1L) != 0L;
+            return ((marks[o] >>> p) & 1L) != 0L;
         }
 
         private void mark(int o, int p) {

@@ -5,6 +5,8 @@ public final class BeginTest {
         answersPlacesNotZero(check);
         forgetsTouchedAndRefund(check);
         endsOpenMessagesAndKeepsWhatTheyWrote(check);
+        endsOneOpenMessage(check);
+        forgetsWhatMessagesTouched(check);
         firstIsAsAtTheLatestBegin(check);
         opensAfterBeginStartFromDepthZero(check);
         check.end();
@@ -43,20 +45,49 @@ public final class BeginTest {
     }
 
     private static void endsOpenMessagesAndKeepsWhatTheyWrote(Check check) {
-        StorageCosts x = new StorageCosts();
-        x.open();
-        x.store(0, 7, 70L, 30000);
-        x.open();
-        x.store(1, 8, 80L, 30000);
-        check.due("begin with two messages open", 2, x.begin());
+        StorageCosts x = begunWithinMessages();
         check.due("depth", 0, x.count(2));
-        check.due("refund", 0, x.count(0));
-        check.due("touched", 0, x.count(1));
+        check.due("places not 0", 2, x.count(3));
         check.due("held of the outer message", 70L, x.held(0, 7, false));
         check.due("first of the outer message", 70L, x.held(0, 7, true));
         check.due("held of the inner message", 80L, x.held(1, 8, false));
         check.due("first of the inner message", 80L, x.held(1, 8, true));
-        check.refused("close after begin", x, Check.STATE, () -> x.close(false));
+        check.refused("close after begin", BeginTest::begunWithinMessages, Check.STATE, y -> y.close(false));
+        check.due("begin again", 2, x.begin());
+    }
+
+    private static void endsOneOpenMessage(Check check) {
+        StorageCosts x = new StorageCosts();
+        x.open();
+        x.store(3, 1, 4L, 30000);
+        check.due("begin within one message", 1, x.begin());
+        check.due("depth", 0, x.count(2));
+        check.due("held", 4L, x.held(3, 1, false));
+        check.due("first", 4L, x.held(3, 1, true));
+    }
+
+    private static void forgetsWhatMessagesTouched(Check check) {
+        StorageCosts x = begunWithinMessages();
+        check.due("refund", 0, x.count(0));
+        check.due("touched", 0, x.count(1));
+        x.open();
+        check.due("refund in the next message", 0, x.count(0));
+        check.due("touched in the next message", 0, x.count(1));
+        check.due("load in the next message", 2100, x.load(0, 7));
+        x.close(false);
+        check.due("load after it", 2100, x.load(0, 7));
+    }
+
+    private static StorageCosts begunWithinMessages() {
+        StorageCosts x = new StorageCosts();
+        x.store(2, 9, 90L, 30000);
+        x.open();
+        x.store(0, 7, 70L, 30000);
+        x.store(2, 9, 0L, 30000);
+        x.open();
+        x.store(1, 8, 80L, 30000);
+        x.begin();
+        return x;
     }
 
     private static void firstIsAsAtTheLatestBegin(Check check) {

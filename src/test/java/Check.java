@@ -1,7 +1,9 @@
+import java.util.function.Supplier;
+
 /** Counts and prints the answers that are not as due; shared by the project's tests. */
 final class Check {
     interface Call {
-        Object answer();
+        Object on(StorageCosts x);
     }
 
     static final Class<? extends RuntimeException> ARGUMENT = IllegalArgumentException.class;
@@ -22,33 +24,40 @@ final class Check {
         }
     }
 
-    /** The class is compared exactly: a kind of the exception that is due is not the one that is due. */
-    void thrown(String what, Class<? extends RuntimeException> want, Call call) {
-        due(what, "throws " + want.getName(), outcome(call));
+    /**
+     * That the call throws just this class, not a kind of it, and that the object
+     * shows the same as one that was made likewise and spared the call.
+     */
+    void refused(String what, Supplier<StorageCosts> made, Class<? extends RuntimeException> want, Call call) {
+        due(what, "throws " + want.getName(), outcome(() -> call.on(made.get())));
+        due(what + ": state afterwards", shown(made), shown(() -> after(made, call)));
     }
 
-    /** As thrown, and that the object shows the same in every way before and after. */
-    void refused(String what, StorageCosts x, Class<? extends RuntimeException> want, Call call) {
-        String before = shown(x);
-        thrown(what, want, call);
-        due(what + ": state afterwards", before, shown(x));
+    private static StorageCosts after(Supplier<StorageCosts> made, Call call) {
+        StorageCosts x = made.get();
+        outcome(() -> call.on(x));
+        return x;
     }
 
-    static Object outcome(Call call) {
+    static Object outcome(Supplier<Object> call) {
         try {
-            return call.answer();
+            return call.get();
         } catch (RuntimeException e) {
             return "throws " + e.getClass().getName();
         }
     }
 
-    /** All that an object shows without being changed. */
-    static String shown(StorageCosts x) {
+    /**
+     * All that an object shows. Each owner is looked at on an object of its own, since
+     * all of them together take more calls than an object is promised to be good for.
+     */
+    static String shown(Supplier<StorageCosts> made) {
         StringBuilder text = new StringBuilder();
-        for (int what = 0; what <= 3; what++) {
-            text.append(x.count(what)).append(' ');
-        }
         for (int o = 0; o < OWNERS; o++) {
+            StorageCosts x = made.get();
+            for (int what = 0; what <= 3; what++) {
+                text.append(x.count(what)).append(' ');
+            }
             for (int p = 0; p < PLACES; p++) {
                 text.append(x.held(o, p, false)).append(',').append(x.held(o, p, true));
                 text.append(x.touched(o, p) ? "t " : " ");

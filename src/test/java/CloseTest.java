@@ -14,13 +14,12 @@ public final class CloseTest {
     }
 
     private static void noneIsOpen(Check check) {
-        StorageCosts x = new StorageCosts();
-        x.store(0, 0, 1L, 30000);
-        check.refused("close(true) with none open", x, Check.STATE, () -> x.close(true));
-        check.refused("close(false) with none open", x, Check.STATE, () -> x.close(false));
+        check.refused("close(true) with none open", CloseTest::filled, Check.STATE, x -> x.close(true));
+        check.refused("close(false) with none open", CloseTest::filled, Check.STATE, x -> x.close(false));
+        StorageCosts x = filled();
         x.open();
         check.due("close of the only one", 0, x.close(true));
-        check.refused("close after the last", x, Check.STATE, () -> x.close(true));
+        check.due("close after the last", "throws " + Check.STATE.getName(), Check.outcome(() -> x.close(true)));
     }
 
     private static void goodKeepsAll(Check check) {
@@ -31,30 +30,36 @@ public final class CloseTest {
         check.due("close(true)", 0, x.close(true));
         check.due("held", 0L, x.held(0, 0, false));
         check.due("refund", 15000, x.count(0));
-        check.due("touched", 2, x.count(1));
+        check.due("touched", 3, x.count(1));
         check.due("touched by load", true, x.touched(3, 3));
         check.due("places not 0", 0, x.count(3));
     }
 
     private static void badTakesAllBack(Check check) {
-        StorageCosts x = filled();
-        x.load(1, 1);
-        String before = Check.shown(x);
-        x.open();
-        x.store(0, 0, 0L, 30000);
-        x.store(2, 9, 9L, 30000);
-        x.load(3, 3);
-        x.load(1, 1);
-        check.due("close(false)", 0, x.close(false));
-        check.due("state", before, Check.shown(x));
+        check.due("state", Check.shown(CloseTest::filled), Check.shown(CloseTest::takenBack));
+        StorageCosts x = takenBack();
         check.due("load of what was touched before", 100, x.load(1, 1));
         check.due("load of what was touched in it", 2100, x.load(3, 3));
         check.due("store on what it held before", 5000, x.store(0, 0, 0L, 30000));
     }
 
-    private static void badTakesBackGoodOnesWithin(Check check) {
+    private static StorageCosts takenBack() {
         StorageCosts x = filled();
-        String before = Check.shown(x);
+        x.open();
+        x.store(0, 0, 0L, 30000);
+        x.store(2, 9, 9L, 30000);
+        x.load(3, 3);
+        x.load(1, 1);
+        x.close(false);
+        return x;
+    }
+
+    private static void badTakesBackGoodOnesWithin(Check check) {
+        check.due("state", Check.shown(CloseTest::filled), Check.shown(() -> goodWithinBad(check)));
+    }
+
+    private static StorageCosts goodWithinBad(Check check) {
+        StorageCosts x = filled();
         x.open();
         x.open();
         x.store(0, 0, 0L, 30000);
@@ -62,7 +67,7 @@ public final class CloseTest {
         check.due("close(true) within", 1, x.close(true));
         check.due("refund within", 15000, x.count(0));
         check.due("close(false) outside", 0, x.close(false));
-        check.due("state", before, Check.shown(x));
+        return x;
     }
 
     private static void badWithinGoodTakesBackOnlyItself(Check check) {
@@ -75,7 +80,7 @@ public final class CloseTest {
         check.due("close(false) within", 1, x.close(false));
         check.due("held of the outer", 6L, x.held(0, 0, false));
         check.due("refund", 0, x.count(0));
-        check.due("touched", 1, x.count(1));
+        check.due("touched", 2, x.count(1));
         check.due("close(true) outside", 0, x.close(true));
         check.due("held", 6L, x.held(0, 0, false));
         check.due("touched", true, x.touched(0, 0));
@@ -123,11 +128,12 @@ public final class CloseTest {
         }
     }
 
-    /** A run at whose beginning place 0 of owner 0 held 5. */
+    /** A run at whose beginning place 0 of owner 0 held 5, and in which another place is touched. */
     private static StorageCosts filled() {
         StorageCosts x = new StorageCosts();
         x.store(0, 0, 5L, 30000);
         x.begin();
+        x.load(1, 1);
         return x;
     }
 }

@@ -4,6 +4,9 @@ public final class CountTest {
         Check check = new Check();
         eachCount(check);
         refundTakenAway(check);
+        for (int o = 0; o <= 3; o++) {
+            placesOfOneOwner(check, o);
+        }
         allPlaces(check);
         wrongWhat(check);
         check.end();
@@ -43,28 +46,48 @@ public final class CountTest {
         check.due("refund as before", 15000, x.count(0));
     }
 
+    private static void placesOfOneOwner(Check check, int o) {
+        StorageCosts x = new StorageCosts();
+        for (int p = 0; p <= 63; p++) {
+            x.store(o, p, p % 2 == 0 ? -1L : 1L << 40, 30000);
+            check.due("touched", p + 1, x.count(1));
+            check.due("places not 0", p + 1, x.count(3));
+        }
+        for (int p = 0; p <= 63; p++) {
+            x.store(o, p, 0L, 30000);
+            check.due("touched", 64, x.count(1));
+            check.due("places not 0", 63 - p, x.count(3));
+        }
+        check.due("refund", 64 * 19900, x.count(0));
+    }
+
     private static void allPlaces(Check check) {
         StorageCosts x = new StorageCosts();
         for (int i = 0; i < 256; i++) {
-            x.store(i / 64, i % 64, i % 2 == 0 ? -1L : 1L << 40, 30000);
-            check.due("touched", i + 1, x.count(1));
-            check.due("places not 0", i + 1, x.count(3));
+            x.store(i / 64, i % 64, Long.MIN_VALUE, 30000);
         }
-        for (int i = 0; i < 256; i++) {
+        check.due("all touched", 256, x.count(1));
+        check.due("all places not 0", 256, x.count(3));
+        check.due("begin with all places filled", 256, x.begin());
+        for (int i = 0; i < 250; i++) {
             x.store(i / 64, i % 64, 0L, 30000);
-            check.due("touched", 256, x.count(1));
-            check.due("places not 0", 255 - i, x.count(3));
         }
-        check.due("refund", 256 * 19900, x.count(0));
+        check.due("refund", 250 * 15000, x.count(0));
+        check.due("touched", 250, x.count(1));
+        check.due("places not 0", 6, x.count(3));
     }
 
     private static void wrongWhat(Check check) {
+        int[] wrong = {-1, 4, 5, Integer.MIN_VALUE, Integer.MAX_VALUE};
+        for (int what : wrong) {
+            check.refused("count(" + what + ")", CountTest::someState, Check.ARGUMENT, x -> x.count(what));
+        }
+    }
+
+    private static StorageCosts someState() {
         StorageCosts x = new StorageCosts();
         x.open();
         x.store(0, 0, 1L, 30000);
-        int[] wrong = {-1, 4, 5, Integer.MIN_VALUE, Integer.MAX_VALUE};
-        for (int what : wrong) {
-            check.refused("count(" + what + ")", x, Check.ARGUMENT, () -> x.count(what));
-        }
+        return x;
     }
 }

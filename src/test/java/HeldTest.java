@@ -2,26 +2,30 @@
 public final class HeldTest {
     public static void main(String[] args) {
         Check check = new Check();
-        everyPlaceOnItsOwn(check);
+        for (int o = 0; o <= 3; o++) {
+            everyPlaceOnItsOwn(check, o);
+        }
         wideValues(check);
         touchesNothing(check);
         wrongPlaces(check);
         check.end();
     }
 
-    private static void everyPlaceOnItsOwn(Check check) {
+    private static void everyPlaceOnItsOwn(Check check, int o) {
         StorageCosts x = new StorageCosts();
         for (int i = 0; i < 256; i++) {
             x.store(i / 64, i % 64, 1000L + i, 30000);
         }
         x.begin();
-        for (int i = 0; i < 256; i++) {
-            x.store(i / 64, i % 64, 2000L + i, 30000);
+        for (int p = 0; p <= 63; p++) {
+            x.store(o, p, 2000L + p, 30000);
         }
-        for (int i = 0; i < 256; i++) {
-            check.due("held " + i, 2000L + i, x.held(i / 64, i % 64, false));
-            check.due("first " + i, 1000L + i, x.held(i / 64, i % 64, true));
+        for (int p = 0; p <= 63; p++) {
+            check.due("held of " + o + ", " + p, 2000L + p, x.held(o, p, false));
+            check.due("first of " + o + ", " + p, 1000L + 64 * o + p, x.held(o, p, true));
         }
+        int next = (o + 1) % 4;
+        check.due("held of the next owner", 1000L + 64 * next + 5, x.held(next, 5, false));
     }
 
     private static void wideValues(Check check) {
@@ -45,8 +49,8 @@ public final class HeldTest {
     }
 
     private static void wrongPlaces(Check check) {
-        StorageCosts x = new StorageCosts();
-        WrongPlaces.refused(check, "held", x, (o, p) -> x.held(o, p, false));
-        WrongPlaces.refused(check, "held first", x, (o, p) -> x.held(o, p, true));
+        WrongPlaces wrong = new WrongPlaces(check, StorageCosts::new);
+        wrong.refused("held", (x, o, p) -> x.held(o, p, false));
+        wrong.refused("held first", (x, o, p) -> x.held(o, p, true));
     }
 }

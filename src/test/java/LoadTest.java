@@ -11,20 +11,16 @@ public final class LoadTest {
 
     private static void everyPlaceOnItsOwn(Check check) {
         StorageCosts x = new StorageCosts();
-        int touched = 0;
+        loadAll(check, "first", x, 2100);
+        loadAll(check, "second", x, 100);
+    }
+
+    private static void loadAll(Check check, String which, StorageCosts x, int cost) {
         for (int o = 0; o <= 3; o++) {
             for (int p = 0; p <= 63; p++) {
-                check.due("first load of " + o + ", " + p, 2100, x.load(o, p));
-                touched++;
-                check.due("touched", touched, x.count(1));
+                check.due(which + " load of " + o + ", " + p, cost, x.load(o, p));
             }
         }
-        for (int o = 0; o <= 3; o++) {
-            for (int p = 0; p <= 63; p++) {
-                check.due("second load of " + o + ", " + p, 100, x.load(o, p));
-            }
-        }
-        check.due("touched", touched, x.count(1));
     }
 
     private static void afterStore(Check check) {
@@ -49,9 +45,13 @@ public final class LoadTest {
     }
 
     private static void wrongPlaces(Check check) {
+        new WrongPlaces(check, LoadTest::someState).refused("load", StorageCosts::load);
+    }
+
+    private static StorageCosts someState() {
         StorageCosts x = new StorageCosts();
         x.open();
         x.store(0, 0, 1L, 30000);
-        WrongPlaces.refused(check, "load", x, x::load);
+        return x;
     }
 }

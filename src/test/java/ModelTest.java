@@ -1,4 +1,5 @@
 import java.util.Random;
+import java.util.function.Supplier;
 
 /** All promises: long runs of mixed calls, each answer held against the model's. */
 public final class ModelTest {
@@ -24,7 +25,6 @@ public final class ModelTest {
         for (int i = 0; i < CALLS; i++) {
             mixedCall(check, "run " + run + ", call " + i, x, model, random, places, openness);
         }
-        check.due("run " + run + ": depth", model.count(2), x.count(2));
     }
 
     private static void mixedCall(Check check, String at, StorageCosts x, Model model, Random random,
@@ -55,7 +55,7 @@ public final class ModelTest {
         }
     }
 
-    private static void same(Check check, String what, Check.Call want, Check.Call got) {
+    private static void same(Check check, String what, Supplier<Object> want, Supplier<Object> got) {
         check.due(what, Check.outcome(want), Check.outcome(got));
     }
 }

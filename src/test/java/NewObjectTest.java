@@ -2,23 +2,23 @@
 public final class NewObjectTest {
     public static void main(String[] args) {
         Check check = new Check();
-        everythingIsZero(check);
+        for (int o = 0; o <= 3; o++) {
+            everythingIsZero(check, o);
+        }
         aRunIsOnAtOnce(check);
         objectsAreApart(check);
         check.end();
     }
 
-    private static void everythingIsZero(Check check) {
+    private static void everythingIsZero(Check check, int o) {
         StorageCosts x = new StorageCosts();
         for (int what = 0; what <= 3; what++) {
             check.due("new: count(" + what + ")", 0, x.count(what));
         }
-        for (int o = 0; o <= 3; o++) {
-            for (int p = 0; p <= 63; p++) {
-                check.due("new: held", 0L, x.held(o, p, false));
-                check.due("new: held first", 0L, x.held(o, p, true));
-                check.due("new: touched", false, x.touched(o, p));
-            }
+        for (int p = 0; p <= 63; p++) {
+            check.due("new: held", 0L, x.held(o, p, false));
+            check.due("new: held first", 0L, x.held(o, p, true));
+            check.due("new: touched", false, x.touched(o, p));
         }
     }
 
@@ -28,19 +28,22 @@ public final class NewObjectTest {
         check.due("its first", 0L, x.held(0, 0, true));
         check.due("back to first", 100, x.store(0, 0, 0L, 2301));
         check.due("refund", 19900, x.count(0));
-        StorageCosts y = new StorageCosts();
-        check.refused("close on a new object", y, Check.STATE, () -> y.close(true));
-        check.due("open on a new object", 1, y.open());
+        check.refused("close on a new object", StorageCosts::new, Check.STATE, y -> y.close(true));
+        check.due("open on a new object", 1, new StorageCosts().open());
     }
 
     private static void objectsAreApart(Check check) {
         StorageCosts x = new StorageCosts();
         StorageCosts y = new StorageCosts();
-        String before = Check.shown(y);
         x.store(1, 2, 3L, 30000);
         x.begin();
         x.open();
         x.store(1, 2, 0L, 30000);
-        check.due("another object's state", before, Check.shown(y));
+        for (int what = 0; what <= 3; what++) {
+            check.due("another object's count", 0, y.count(what));
+        }
+        check.due("another object's held", 0L, y.held(1, 2, false));
+        check.due("another object's first", 0L, y.held(1, 2, true));
+        check.due("another object's touched", false, y.touched(1, 2));
     }
 }

@@ -1,3 +1,6 @@
+import java.util.Arrays;
+import java.util.function.Supplier;
+
 /** Promise 6: what a store costs, what it gives back, and when it is refused. */
 public final class StoreTest {
     private static final int PLENTY = 1000000;
@@ -11,7 +14,7 @@ public final class StoreTest {
         allBitsOfAValueCount(check);
         refundOverManyStores(check);
         gasEdges(check);
-        refusedStoreChangesNothing(check);
+        refusedStoreTouchesNothing(check);
         wrongPlaces(check);
         check.end();
     }
@@ -64,7 +67,7 @@ public final class StoreTest {
 
     /** One store on a touched place, and as the first touch where nothing was stored in the run before. */
     private static void ask(Check check, long first, long[] before, long v, int cost, int refund) {
-        String what = "first " + first + ", then " + java.util.Arrays.toString(before) + ", store " + v;
+        String what = "first " + first + ", then " + Arrays.toString(before) + ", store " + v;
         StorageCosts x = run(first, before);
         x.load(3, 63);
         int refundBefore = x.count(0);
@@ -113,45 +116,41 @@ public final class StoreTest {
         gasEdge(check, 5L, new long[] {}, 0L, 5000);
         gasEdge(check, 0L, new long[] {5, 0}, 6L, 20000);
         gasEdge(check, 5L, new long[] {6, 5}, 7L, 2900);
-        stipendEdge(check, 0L, new long[] {}, 0L, 2200);
-        stipendEdge(check, 5L, new long[] {6}, 6L, 100);
-        stipendEdge(check, 5L, new long[] {6}, 0L, 100);
+        leastGasEdge(check, 0L, new long[] {}, 0L, 2200);
+        leastGasEdge(check, 5L, new long[] {6}, 6L, 100);
+        leastGasEdge(check, 5L, new long[] {6}, 0L, 100);
     }
 
     private static void gasEdge(Check check, long first, long[] before, long v, int cost) {
-        StorageCosts x = run(first, before);
-        refused(check, x, v, cost - 1);
-        check.due("store with just enough gas", cost, x.store(3, 63, v, cost));
+        refused(check, () -> run(first, before), v, cost - 1);
+        check.due("store with just enough gas", cost, run(first, before).store(3, 63, v, cost));
     }
 
-    private static void stipendEdge(Check check, long first, long[] before, long v, int cost) {
-        StorageCosts x = run(first, before);
+    /** However little the store costs, this much gas is not enough. */
+    private static void leastGasEdge(Check check, long first, long[] before, long v, int cost) {
         int[] tooLittle = {2300, 2299, 2200, 100, 99, 1, 0, -1, Integer.MIN_VALUE};
         for (int gas : tooLittle) {
-            refused(check, x, v, gas);
+            refused(check, () -> run(first, before), v, gas);
         }
-        check.due("store with gas 2301", cost, x.store(3, 63, v, 2301));
-        StorageCosts y = run(first, before);
-        check.due("store with all gas", cost, y.store(3, 63, v, Integer.MAX_VALUE));
+        check.due("store with gas 2301", cost, run(first, before).store(3, 63, v, 2301));
+        check.due("store with all gas", cost, run(first, before).store(3, 63, v, Integer.MAX_VALUE));
     }
 
-    private static void refused(Check check, StorageCosts x, long v, int gas) {
-        check.refused("store " + v + " with gas " + gas, x, Check.STATE, () -> x.store(3, 63, v, gas));
+    private static void refused(Check check, Supplier<StorageCosts> made, long v, int gas) {
+        check.refused("store " + v + " with gas " + gas, made, Check.STATE, x -> x.store(3, 63, v, gas));
     }
 
-    private static void refusedStoreChangesNothing(Check check) {
+    private static void refusedStoreTouchesNothing(Check check) {
         StorageCosts x = new StorageCosts();
-        refused(check, x, 1L, 22099);
+        Check.outcome(() -> x.store(3, 63, 1L, 22099));
         check.due("touched by a refused store", false, x.touched(3, 63));
+        Check.outcome(() -> x.store(3, 63, 0L, 2300));
         check.due("load after a refused store", 2100, x.load(3, 63));
-        x.open();
-        refused(check, x, 1L, 19999);
-        check.due("depth after a refused store", 1, x.count(2));
     }
 
     private static void wrongPlaces(Check check) {
-        StorageCosts x = run(5L, new long[] {0L});
-        WrongPlaces.refused(check, "store", x, (o, p) -> x.store(o, p, 1L, PLENTY));
-        WrongPlaces.refused(check, "store with no gas", x, (o, p) -> x.store(o, p, 1L, 0));
+        WrongPlaces wrong = new WrongPlaces(check, () -> run(5L, new long[] {0L}));
+        wrong.refused("store", (x, o, p) -> x.store(o, p, 1L, PLENTY));
+        wrong.refused("store with no gas", (x, o, p) -> x.store(o, p, 1L, 0));
     }
 }

@@ -37,8 +37,6 @@ public final class TouchedTest {
     }
 
     private static void wrongPlaces(Check check) {
-        StorageCosts x = new StorageCosts();
-        x.load(3, 63);
-        WrongPlaces.refused(check, "touched", x, x::touched);
+        new WrongPlaces(check, StorageCosts::new).refused("touched", StorageCosts::touched);
     }
 }
