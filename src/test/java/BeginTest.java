@@ -9,6 +9,11 @@ public final class BeginTest {
         forgetsWhatMessagesTouched(check);
         firstIsAsAtTheLatestBegin(check);
         opensAfterBeginStartFromDepthZero(check);
+        allIsFull(check);
+        allIsEmptyAgain(check);
+        thirtyOpenMessagesEnd(check);
+        whatWasTakenBackStaysSo(check);
+        aMessageAfterwardsGoesBackToTheBegin(check);
         check.end();
     }
 
@@ -101,6 +106,88 @@ public final class BeginTest {
         x.store(2, 2, 0L, 30000);
         x.begin();
         check.due("first after a begin on 0", 0L, x.held(2, 2, true));
+    }
+
+    private static void allIsFull(Check check) {
+        StorageCosts x = allFilled();
+        check.due("touched before begin", 256, x.count(1));
+        check.due("begin with every place filled", 256, x.begin());
+        check.due("touched after begin", 0, x.count(1));
+        check.due("places not 0 after begin", 256, x.count(3));
+        for (int i = 0; i < 252; i++) {
+            check.due("first of " + i, 1L + i, x.held(i / 64, i % 64, true));
+        }
+    }
+
+    private static void allIsEmptyAgain(Check check) {
+        StorageCosts x = allFilled();
+        for (int i = 0; i < 253; i++) {
+            x.store(i / 64, i % 64, 0L, 30000);
+        }
+        check.due("begin with three places filled", 3, x.begin());
+
+        StorageCosts y = new StorageCosts();
+        y.store(2, 2, 2L, 30000);
+        y.begin();
+        y.store(2, 2, 0L, 30000);
+        check.due("begin with the only place emptied", 0, y.begin());
+        check.due("its first", 0L, y.held(2, 2, true));
+        check.due("store on it costs as on an empty one", 22100, y.store(2, 2, 2L, 30000));
+    }
+
+    private static StorageCosts allFilled() {
+        StorageCosts x = new StorageCosts();
+        for (int i = 0; i < 256; i++) {
+            x.store(i / 64, i % 64, 1L + i, 30000);
+        }
+        return x;
+    }
+
+    private static void thirtyOpenMessagesEnd(Check check) {
+        check.due("depth", 0, begunWithinThirty().count(2));
+        check.due("places not 0", 30, begunWithinThirty().count(3));
+        check.refused("close(true)", BeginTest::begunWithinThirty, Check.STATE, x -> x.close(true));
+        check.refused("close(false)", BeginTest::begunWithinThirty, Check.STATE, x -> x.close(false));
+        for (int i = 1; i <= 30; i++) {
+            check.due("held of message " + i, (long) i, begunWithinThirty().held(0, i, false));
+            check.due("first of message " + i, (long) i, begunWithinThirty().held(0, i, true));
+        }
+    }
+
+    private static StorageCosts begunWithinThirty() {
+        StorageCosts x = new StorageCosts();
+        for (int i = 1; i <= 30; i++) {
+            x.open();
+            x.store(0, i, i, 30000);
+        }
+        x.begin();
+        return x;
+    }
+
+    private static void whatWasTakenBackStaysSo(Check check) {
+        StorageCosts x = new StorageCosts();
+        x.open();
+        x.store(0, 0, 1L, 30000);
+        x.open();
+        x.store(0, 0, 2L, 30000);
+        x.store(0, 1, 2L, 30000);
+        x.close(false);
+        check.due("begin behind a message taken back", 1, x.begin());
+        check.due("first of what both wrote", 1L, x.held(0, 0, true));
+        check.due("held of what both wrote", 1L, x.held(0, 0, false));
+        check.due("first of what was taken back", 0L, x.held(0, 1, true));
+        check.due("held of what was taken back", 0L, x.held(0, 1, false));
+    }
+
+    private static void aMessageAfterwardsGoesBackToTheBegin(Check check) {
+        check.due("shown", Check.shown(BeginTest::begunWithinMessages), Check.shown(() -> {
+            StorageCosts x = begunWithinMessages();
+            x.open();
+            x.store(0, 7, 0L, 30000);
+            x.store(2, 9, 1L, 30000);
+            x.close(false);
+            return x;
+        }));
     }
 
     private static void opensAfterBeginStartFromDepthZero(Check check) {

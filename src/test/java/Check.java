@@ -33,6 +33,11 @@ final class Check {
         due(what + ": state afterwards", shown(made), shown(() -> after(made, call)));
     }
 
+    /** That the call throws just this class, on an object that goes on being used. */
+    void thrown(String what, Class<? extends RuntimeException> want, Supplier<Object> call) {
+        due(what, "throws " + want.getName(), outcome(call));
+    }
+
     private static StorageCosts after(Supplier<StorageCosts> made, Call call) {
         StorageCosts x = made.get();
         outcome(() -> call.on(x));

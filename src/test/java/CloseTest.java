@@ -10,6 +10,16 @@ public final class CloseTest {
         firstStays(check);
         messagesAtOneDepthAreApart(check);
         throughAllThirty(check);
+        refusedAgainAndAgain(check);
+        emptyMessages(check);
+        refundThatFellIsTakenBack(check);
+        refundThatRoseIsTakenBack(check);
+        touchedByTheOuterStaysTouched(check);
+        goodThroughAllThirty(check);
+        badOutermostTakesAllThirtyBack(check);
+        firstOfZeroStays(check);
+        everyPlaceIsTakenBack(check);
+        everyPlaceIsKept(check);
         check.end();
     }
 
@@ -126,6 +136,146 @@ public final class CloseTest {
             check.due("held at " + i, (long) i, x.held(0, 0, false));
             check.due("touched at " + i, i == 0 ? 0 : i + 1, x.count(1));
         }
+    }
+
+    private static void refusedAgainAndAgain(Check check) {
+        StorageCosts x = filled();
+        for (int i = 0; i < 40; i++) {
+            check.thrown("close with none open", Check.STATE, () -> x.close(false));
+            check.thrown("close with none open", Check.STATE, () -> x.close(true));
+            check.due("depth after a refused close", 0, x.count(2));
+        }
+        check.due("open after refused closes", 1, x.open());
+        check.due("close after refused closes", 0, x.close(true));
+        check.thrown("close with none open again", Check.STATE, () -> x.close(true));
+    }
+
+    private static void emptyMessages(Check check) {
+        for (boolean good : new boolean[] {true, false}) {
+            check.due("shown after an empty message", Check.shown(CloseTest::filled), Check.shown(() -> {
+                StorageCosts x = filled();
+                x.open();
+                x.open();
+                check.due("close of an empty message", 1, x.close(good));
+                check.due("close of one around an empty message", 0, x.close(good));
+                return x;
+            }));
+        }
+    }
+
+    private static void refundThatFellIsTakenBack(Check check) {
+        StorageCosts x = filled();
+        x.store(0, 0, 0L, 30000);
+        x.open();
+        x.store(0, 0, 6L, 30000);
+        check.due("refund in the message", 0, x.count(0));
+        x.close(false);
+        check.due("refund as when it was opened", 15000, x.count(0));
+        check.due("held as when it was opened", 0L, x.held(0, 0, false));
+        x.open();
+        x.store(0, 0, 6L, 30000);
+        x.close(true);
+        check.due("refund after a good one", 0, x.count(0));
+    }
+
+    private static void refundThatRoseIsTakenBack(Check check) {
+        StorageCosts x = filled();
+        x.store(0, 0, 6L, 30000);
+        x.open();
+        x.store(0, 0, 5L, 30000);
+        x.open();
+        x.store(0, 0, 0L, 30000);
+        check.due("refund in the inner message", 17800, x.count(0));
+        x.close(false);
+        check.due("refund as when the inner was opened", 2800, x.count(0));
+        x.close(false);
+        check.due("refund as when the outer was opened", 0, x.count(0));
+        check.due("held as when the outer was opened", 6L, x.held(0, 0, false));
+    }
+
+    private static void touchedByTheOuterStaysTouched(Check check) {
+        StorageCosts x = filled();
+        x.open();
+        x.load(2, 2);
+        x.open();
+        check.due("load of what the outer touched", 100, x.load(2, 2));
+        x.load(2, 3);
+        x.close(false);
+        check.due("touched by both", true, x.touched(2, 2));
+        check.due("touched by the inner", false, x.touched(2, 3));
+        check.due("touched before", true, x.touched(1, 1));
+        check.due("how many", 2, x.count(1));
+    }
+
+    private static void goodThroughAllThirty(Check check) {
+        StorageCosts x = thirtyOpen();
+        for (int i = 29; i >= 0; i--) {
+            check.due("close(true) to " + i, i, x.close(true));
+        }
+        check.due("places not 0", 31, x.count(3));
+        check.due("touched", 31, x.count(1));
+        check.due("held of the innermost", 30L, x.held(2, 30, false));
+        check.thrown("one close too many", Check.STATE, () -> x.close(true));
+    }
+
+    private static void badOutermostTakesAllThirtyBack(Check check) {
+        check.due("shown", Check.shown(CloseTest::filled), Check.shown(() -> {
+            StorageCosts x = thirtyOpen();
+            for (int i = 29; i >= 1; i--) {
+                x.close(true);
+            }
+            check.due("close(false) of the outermost", 0, x.close(false));
+            return x;
+        }));
+    }
+
+    private static StorageCosts thirtyOpen() {
+        StorageCosts x = filled();
+        for (int i = 1; i <= 30; i++) {
+            x.open();
+            x.store(2, i, i, 30000);
+        }
+        return x;
+    }
+
+    private static void everyPlaceIsTakenBack(Check check) {
+        check.due("shown", Check.shown(CloseTest::filled), Check.shown(() -> {
+            StorageCosts x = filledInAMessage();
+            x.close(false);
+            return x;
+        }));
+    }
+
+    private static void everyPlaceIsKept(Check check) {
+        String open = Check.shown(CloseTest::filledInAMessage);
+        check.due("shown", open.replace("0 256 1 256 ", "0 256 0 256 "), Check.shown(() -> {
+            StorageCosts x = filledInAMessage();
+            x.close(true);
+            return x;
+        }));
+    }
+
+    private static StorageCosts filledInAMessage() {
+        StorageCosts x = filled();
+        x.open();
+        for (int i = 0; i < 256; i++) {
+            x.store(i / 64, i % 64, 1000L + i, 30000);
+        }
+        return x;
+    }
+
+    private static void firstOfZeroStays(Check check) {
+        StorageCosts x = new StorageCosts();
+        x.open();
+        x.store(0, 0, 8L, 30000);
+        x.close(true);
+        check.due("first after close(true)", 0L, x.held(0, 0, true));
+        x.open();
+        check.due("back to first in a later message", 100, x.store(0, 0, 0L, 30000));
+        check.due("refund for it", 19900, x.count(0));
+        x.close(false);
+        check.due("first after close(false)", 0L, x.held(0, 0, true));
+        check.due("refund after close(false)", 0, x.count(0));
     }
 
     /** A run at whose beginning place 0 of owner 0 held 5, and in which another place is touched. */

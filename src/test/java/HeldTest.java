@@ -7,6 +7,8 @@ public final class HeldTest {
         }
         wideValues(check);
         touchesNothing(check);
+        inMessages(check);
+        atTheCorners(check);
         wrongPlaces(check);
         check.end();
     }
@@ -46,6 +48,36 @@ public final class HeldTest {
         x.held(0, 1, true);
         check.due("touched by held", 0, x.count(1));
         check.due("load after held", 2100, x.load(0, 0));
+    }
+
+    private static void inMessages(Check check) {
+        StorageCosts x = new StorageCosts();
+        x.store(0, 0, 100L, 30000);
+        x.begin();
+        for (int i = 1; i <= 30; i++) {
+            x.open();
+            x.store(0, 0, i, 30000);
+            check.due("held in message " + i, (long) i, x.held(0, 0, false));
+            check.due("first in message " + i, 100L, x.held(0, 0, true));
+        }
+        x.close(false);
+        check.due("held after the thirtieth is taken back", 29L, x.held(0, 0, false));
+        x.close(true);
+        check.due("held after the next is good", 29L, x.held(0, 0, false));
+        check.due("first after both", 100L, x.held(0, 0, true));
+    }
+
+    private static void atTheCorners(Check check) {
+        StorageCosts x = new StorageCosts();
+        x.store(0, 0, 1L, 30000);
+        x.store(0, 63, 2L, 30000);
+        x.store(3, 0, 3L, 30000);
+        x.store(3, 63, 4L, 30000);
+        check.due("held of 0, 0", 1L, x.held(0, 0, false));
+        check.due("held of 0, 63", 2L, x.held(0, 63, false));
+        check.due("held of 3, 0", 3L, x.held(3, 0, false));
+        check.due("held of 3, 63", 4L, x.held(3, 63, false));
+        check.due("first of 3, 63", 0L, x.held(3, 63, true));
     }
 
     private static void wrongPlaces(Check check) {

@@ -5,6 +5,10 @@ public final class LoadTest {
         everyPlaceOnItsOwn(check);
         afterStore(check);
         changesOnlyTouched(check);
+        afterAMessage(check);
+        afterBegin(check);
+        afterARefusedStore(check);
+        neverGivesBack(check);
         wrongPlaces(check);
         check.end();
     }
@@ -42,6 +46,45 @@ public final class LoadTest {
         check.due("refund", 0, x.count(0));
         check.due("depth", 0, x.count(2));
         check.due("places not 0", 1, x.count(3));
+    }
+
+    private static void afterAMessage(Check check) {
+        StorageCosts x = new StorageCosts();
+        x.open();
+        x.load(0, 63);
+        x.close(false);
+        check.due("load after one that was taken back", 2100, x.load(0, 63));
+        x.open();
+        check.due("load within, of what is touched outside", 100, x.load(0, 63));
+        check.due("load within, of another", 2100, x.load(1, 0));
+        x.close(true);
+        check.due("load after a good message", 100, x.load(1, 0));
+    }
+
+    private static void afterBegin(Check check) {
+        StorageCosts x = new StorageCosts();
+        x.load(3, 0);
+        check.due("load before begin", 100, x.load(3, 0));
+        x.begin();
+        check.due("load after begin", 2100, x.load(3, 0));
+        check.due("load after that", 100, x.load(3, 0));
+    }
+
+    private static void afterARefusedStore(Check check) {
+        StorageCosts x = new StorageCosts();
+        check.thrown("store with too little gas", Check.STATE, () -> x.store(3, 0, 1L, 22099));
+        check.thrown("store with gas 2300", Check.STATE, () -> x.store(3, 0, 0L, 2300));
+        check.due("load after refused stores", 2100, x.load(3, 0));
+    }
+
+    private static void neverGivesBack(Check check) {
+        StorageCosts x = new StorageCosts();
+        x.store(0, 0, 5L, 30000);
+        x.begin();
+        x.store(0, 0, 0L, 30000);
+        x.load(0, 0);
+        x.load(0, 1);
+        check.due("refund after loads", 15000, x.count(0));
     }
 
     private static void wrongPlaces(Check check) {

@@ -6,6 +6,8 @@ public final class NewObjectTest {
             everythingIsZero(check, o);
         }
         aRunIsOnAtOnce(check);
+        noMessageIsOpen(check);
+        beginOnItChangesNothing(check);
         objectsAreApart(check);
         check.end();
     }
@@ -28,8 +30,20 @@ public final class NewObjectTest {
         check.due("its first", 0L, x.held(0, 0, true));
         check.due("back to first", 100, x.store(0, 0, 0L, 2301));
         check.due("refund", 19900, x.count(0));
-        check.refused("close on a new object", StorageCosts::new, Check.STATE, y -> y.close(true));
+    }
+
+    private static void noMessageIsOpen(Check check) {
+        check.refused("close(true) on a new object", StorageCosts::new, Check.STATE, x -> x.close(true));
+        check.refused("close(false) on a new object", StorageCosts::new, Check.STATE, x -> x.close(false));
         check.due("open on a new object", 1, new StorageCosts().open());
+    }
+
+    private static void beginOnItChangesNothing(Check check) {
+        check.due("shown after begin", Check.shown(StorageCosts::new), Check.shown(() -> {
+            StorageCosts x = new StorageCosts();
+            check.due("begin on a new object", 0, x.begin());
+            return x;
+        }));
     }
 
     private static void objectsAreApart(Check check) {

@@ -15,7 +15,13 @@ public final class StoreTest {
         refundOverManyStores(check);
         gasEdges(check);
         refusedStoreTouchesNothing(check);
+        refusedStoreGivesNothingBack(check);
+        refusedStoreInAMessage(check);
+        whatWasTouchedCountsForGas(check);
+        messagesDoNotMoveFirst(check);
+        placesNextToItStay(check);
         wrongPlaces(check);
+        wrongPlaceComesBeforeGas(check);
         check.end();
     }
 
@@ -61,6 +67,13 @@ public final class StoreTest {
         ask(check, 5, new long[] {}, high + 5, 2900, 0);
         ask(check, 5, new long[] {6}, high + 5, 100, 0);
         ask(check, 5, new long[] {high}, 5, 100, 2800);
+        ask(check, 5, new long[] {high + 5}, 6, 100, 0);
+        ask(check, 5, new long[] {high + 5}, 5, 100, 2800);
+        ask(check, 5, new long[] {high + 5}, 0, 100, 15000);
+        ask(check, 5, new long[] {0}, high, 100, -15000);
+        ask(check, 5, new long[] {high}, 0, 100, 15000);
+        ask(check, 0, new long[] {high}, 6, 100, 0);
+        ask(check, 0, new long[] {high}, 0, 100, 19900);
         ask(check, Long.MIN_VALUE, new long[] {}, Long.MAX_VALUE, 2900, 0);
         ask(check, Long.MIN_VALUE, new long[] {Long.MAX_VALUE}, 0, 100, 15000);
     }
@@ -146,6 +159,81 @@ public final class StoreTest {
         check.due("touched by a refused store", false, x.touched(3, 63));
         Check.outcome(() -> x.store(3, 63, 0L, 2300));
         check.due("load after a refused store", 2100, x.load(3, 63));
+    }
+
+    private static void refusedStoreGivesNothingBack(Check check) {
+        StorageCosts x = run(5L, new long[] {0L});
+        check.thrown("store that would take back", Check.STATE, () -> x.store(3, 63, 6L, 2300));
+        check.due("refund", 15000, x.count(0));
+        check.thrown("store that would restore", Check.STATE, () -> x.store(3, 63, 5L, 2300));
+        check.due("refund", 15000, x.count(0));
+        check.due("held", 0L, x.held(3, 63, false));
+
+        StorageCosts y = run(5L, new long[] {});
+        check.thrown("store that would empty", Check.STATE, () -> y.store(3, 63, 0L, 4999));
+        check.due("refund", 0, y.count(0));
+        check.due("held", 5L, y.held(3, 63, false));
+    }
+
+    private static void refusedStoreInAMessage(Check check) {
+        StorageCosts x = run(5L, new long[] {});
+        x.open();
+        check.thrown("store in a message", Check.STATE, () -> x.store(3, 63, 0L, 4999));
+        check.due("depth: the message stays open", 1, x.count(2));
+        check.due("touched in the message", 0, x.count(1));
+        check.due("close(true)", 0, x.close(true));
+        check.due("touched after it", 0, x.count(1));
+        check.due("refund after it", 0, x.count(0));
+        check.due("held after it", 5L, x.held(3, 63, false));
+    }
+
+    /** The 2100 of an untouched place is part of what is held against the gas, and only then. */
+    private static void whatWasTouchedCountsForGas(Check check) {
+        StorageCosts x = run(5L, new long[] {});
+        check.thrown("untouched, gas for a touched one", Check.STATE, () -> x.store(3, 63, 6L, 2900));
+        x.load(3, 63);
+        check.thrown("touched, one less than it costs", Check.STATE, () -> x.store(3, 63, 6L, 2899));
+        check.due("touched, just what it costs", 2900, x.store(3, 63, 6L, 2900));
+
+        StorageCosts y = new StorageCosts();
+        check.thrown("empty, gas for a touched one", Check.STATE, () -> y.store(3, 63, 6L, 20000));
+        y.load(3, 63);
+        check.thrown("empty, one less than it costs", Check.STATE, () -> y.store(3, 63, 6L, 19999));
+        check.due("empty, just what it costs", 20000, y.store(3, 63, 6L, 20000));
+    }
+
+    private static void messagesDoNotMoveFirst(Check check) {
+        StorageCosts x = run(5L, new long[] {});
+        x.open();
+        check.due("store in a message", 5000, x.store(3, 63, 6L, PLENTY));
+        x.open();
+        check.due("store in the next", 100, x.store(3, 63, 7L, PLENTY));
+        x.close(true);
+        x.close(true);
+        check.due("store behind both", 100, x.store(3, 63, 5L, PLENTY));
+        check.due("refund", 2800, x.count(0));
+    }
+
+    private static void placesNextToItStay(Check check) {
+        StorageCosts x = new StorageCosts();
+        x.store(1, 0, 1L, PLENTY);
+        x.store(1, 63, 2L, PLENTY);
+        int[][] others = {{0, 63}, {1, 1}, {1, 62}, {2, 0}, {2, 63}, {0, 0}};
+        for (int[] other : others) {
+            check.due("held of another", 0L, x.held(other[0], other[1], false));
+            check.due("touched of another", false, x.touched(other[0], other[1]));
+        }
+        check.due("held", 1L, x.held(1, 0, false));
+        check.due("held", 2L, x.held(1, 63, false));
+    }
+
+    private static void wrongPlaceComesBeforeGas(Check check) {
+        for (int gas : new int[] {2300, 0, -1, Integer.MIN_VALUE, 2301, 22099}) {
+            check.refused("store of 4, 0 with gas " + gas, StorageCosts::new, Check.ARGUMENT,
+                    x -> x.store(4, 0, 1L, gas));
+            check.refused("store of 0, 64 with gas " + gas, StorageCosts::new, Check.ARGUMENT,
+                    x -> x.store(0, 64, 1L, gas));
+        }
     }
 
     private static void wrongPlaces(Check check) {

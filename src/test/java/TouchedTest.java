@@ -5,6 +5,9 @@ public final class TouchedTest {
         onlyThePlaceThatWasTouched(check);
         byStoreOfTheSameValue(check);
         askingTouchesNothing(check);
+        refusedCallsTouchNothing(check);
+        messagesAndBegin(check);
+        allAndNone(check);
         wrongPlaces(check);
         check.end();
     }
@@ -34,6 +37,44 @@ public final class TouchedTest {
         check.due("touched", false, x.touched(1, 1));
         check.due("touched again", false, x.touched(1, 1));
         check.due("how many", 0, x.count(1));
+    }
+
+    private static void refusedCallsTouchNothing(Check check) {
+        StorageCosts x = new StorageCosts();
+        check.thrown("store with too little gas", Check.STATE, () -> x.store(0, 0, 1L, 22099));
+        check.thrown("store with gas 2300", Check.STATE, () -> x.store(0, 0, 0L, 2300));
+        check.due("touched after refused stores", false, x.touched(0, 0));
+        check.thrown("load of 0, 64", Check.ARGUMENT, () -> x.load(0, 64));
+        check.due("touched of 1, 0", false, x.touched(1, 0));
+        check.due("touched of 0, 0", false, x.touched(0, 0));
+        check.due("how many", 0, x.count(1));
+    }
+
+    private static void messagesAndBegin(Check check) {
+        StorageCosts x = new StorageCosts();
+        x.open();
+        x.load(1, 63);
+        check.due("touched in the message", true, x.touched(1, 63));
+        x.close(false);
+        check.due("touched after it is taken back", false, x.touched(1, 63));
+        x.open();
+        x.load(1, 63);
+        x.close(true);
+        check.due("touched after a good one", true, x.touched(1, 63));
+        x.begin();
+        check.due("touched after begin", false, x.touched(1, 63));
+    }
+
+    private static void allAndNone(Check check) {
+        StorageCosts x = new StorageCosts();
+        for (int i = 0; i < 256; i++) {
+            x.load(i / 64, i % 64);
+        }
+        for (int i = 0; i < 254; i++) {
+            check.due("touched " + i + " of all", true, x.touched(i / 64, i % 64));
+        }
+        x.begin();
+        check.due("touched after begin", false, x.touched(3, 63));
     }
 
     private static void wrongPlaces(Check check) {

@@ -6,8 +6,12 @@ final class WrongPlaces {
         Object on(StorageCosts x, int o, int p);
     }
 
-    private static final int[] OWNERS = {-1, 4, Integer.MIN_VALUE, Integer.MAX_VALUE, 0x10000, -4};
-    private static final int[] PLACES = {-1, 64, Integer.MIN_VALUE, Integer.MAX_VALUE, 128, -64};
+    /** Next to the range, the farthest there are, and those that a mask or an overflow would bring back into it. */
+    private static final int[] OWNERS = {-1, 4, Integer.MIN_VALUE, Integer.MAX_VALUE, 0x10000, -4, 1 << 26};
+    private static final int[] PLACES = {-1, 64, Integer.MIN_VALUE, Integer.MAX_VALUE, 128, -64, 1 << 16};
+
+    /** Pairs whose number 64 * o + p is that of a place that there is. */
+    private static final int[][] ALIASES = {{-1, 64}, {-1, 127}, {4, -1}, {4, -64}, {1, -64}, {0, 255}, {2, 64}};
 
     private final Check check;
     private final Supplier<StorageCosts> made;
@@ -26,8 +30,9 @@ final class WrongPlaces {
             ask(name, call, 0, p);
             ask(name, call, 3, p);
         }
-        ask(name, call, -1, 64);
-        ask(name, call, 4, -1);
+        for (int[] alias : ALIASES) {
+            ask(name, call, alias[0], alias[1]);
+        }
     }
 
     private void ask(String name, PlaceCall call, int o, int p) {
