@@ -3,6 +3,8 @@ import java.lang.reflect.Field;
 import java.lang.reflect.Member;
 import java.lang.reflect.Method;
 import java.lang.reflect.Modifier;
+import java.util.ArrayList;
+import java.util.List;
 import java.util.Set;
 import java.util.TreeSet;
 
@@ -26,6 +28,8 @@ public final class FaceTest {
                 StorageCosts.class.getModifiers());
         check.due("what is not private", new TreeSet<>(FACE), openMembers());
         check.due("fields that are static and not final", Set.of(), looseStatics());
+        check.due("private methods named as one of the face", Set.of(), borrowedNames());
+        check.due("classes inside that are open or not static", Set.of(), looseClasses());
         check.end();
     }
 
@@ -57,5 +61,38 @@ public final class FaceTest {
             }
         }
         return loose;
+    }
+
+    private static Set<String> borrowedNames() {
+        Set<String> borrowed = new TreeSet<>();
+        for (Class<?> c : classes()) {
+            for (Method m : c.getDeclaredMethods()) {
+                if (Modifier.isPrivate(m.getModifiers()) && isNameOfFace(m.getName())) {
+                    borrowed.add(m.toString());
+                }
+            }
+        }
+        return borrowed;
+    }
+
+    private static boolean isNameOfFace(String name) {
+        return FACE.stream().anyMatch(member -> member.contains("." + name + "("));
+    }
+
+    private static Set<String> looseClasses() {
+        Set<String> loose = new TreeSet<>();
+        for (Class<?> c : StorageCosts.class.getDeclaredClasses()) {
+            int modifiers = c.getModifiers();
+            if (Modifier.isPublic(modifiers) || Modifier.isProtected(modifiers) || !Modifier.isStatic(modifiers)) {
+                loose.add(c.getName());
+            }
+        }
+        return loose;
+    }
+
+    private static List<Class<?>> classes() {
+        List<Class<?>> all = new ArrayList<>(List.of(StorageCosts.class.getDeclaredClasses()));
+        all.add(StorageCosts.class);
+        return all;
     }
 }
